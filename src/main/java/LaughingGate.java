@@ -269,7 +269,12 @@ public final class LaughingGate {
         if (what == 0) {
             return Integer.bitCount(bits);
         }
-        return bits == 0 ? LACKING : Integer.numberOfTrailingZeros(bits);
+        for (int v = 0; v <= DIGIT; v++) {
+            if ((bits >> v & 1) == 1) {
+                return v;
+            }
+        }
+        return LACKING;
     }
 
     public long odds(int n, int part) {
@@ -590,24 +595,18 @@ public final class LaughingGate {
         int best = LACKING;
         int fewest = MOST_PEOPLE + 1;
         for (int set = 0; set <= onRoad; set++) {
-            boolean isFewer = (set & ~onRoad) == 0 && Integer.bitCount(set) < fewest;
-            if (isFewer && staysUpWithout(set)) {
+            if ((set & ~onRoad) != 0 || Integer.bitCount(set) >= fewest) {
+                continue;
+            }
+            trial.copyFrom(now.town);
+            trial.sober(set);
+            trial.hourGoes();
+            if (trial.falls <= now.town.falls) {
                 best = set;
                 fewest = Integer.bitCount(set);
             }
         }
         return best;
-    }
-
-    private boolean staysUpWithout(int sobered) {
-        trial.copyFrom(now.town);
-        for (int person = 0; person < trial.people; person++) {
-            if ((sobered >> person & 1) == 1) {
-                trial.mirths[person] = 0;
-            }
-        }
-        trial.hourGoes();
-        return trial.falls <= now.town.falls;
     }
 
     private int walkersAfterTurn(int one, int other, int n) {
@@ -705,7 +704,7 @@ public final class LaughingGate {
         int falls;
         int hour;
         City city;
-        private final int[] facts = new int[City.LETTERS.length()];
+        private final int[] facts = new int[City.LETTER_COUNT];
         private final int[] sums = new int[MOST_PEOPLE];
 
         void copyFrom(Town other) {
@@ -774,6 +773,14 @@ public final class LaughingGate {
             road[place] = other;
             road[otherPlace] = one;
             return true;
+        }
+
+        void sober(int bits) {
+            for (int person = 0; person < people; person++) {
+                if ((bits >> person & 1) == 1) {
+                    mirths[person] = 0;
+                }
+            }
         }
 
         void hoursGo(int n) {
@@ -882,6 +889,9 @@ public final class LaughingGate {
     private static final class City {
         static final String LETTERS = "pkvmrh";
         static final String SIGNS = "<=>";
+        static final int LETTER_COUNT = 6, SIGN_COUNT = 3;
+        /** More than the greatest number of a test, which two digits tell. */
+        static final int NUMBERS = 100;
         static final int NOT = -1, AND = -2, OR = -3;
 
         int near;
@@ -902,7 +912,7 @@ public final class LaughingGate {
         }
 
         void addTest(int letter, int sign, int n) {
-            addStep((letter * SIGNS.length() + sign) * 100 + n);
+            addStep((letter * SIGN_COUNT + sign) * NUMBERS + n);
         }
 
         void addStep(int step) {
@@ -934,23 +944,15 @@ public final class LaughingGate {
                 } else if (step == OR) {
                     truths = truths >> 1 | truths & 1;
                 } else {
-                    truths = truths << 1 | (testHolds(step, facts) ? 1 : 0);
+                    int letter = step / NUMBERS / SIGN_COUNT;
+                    int fact = letter >= 0 && letter < facts.length ? facts[letter] : 0;
+                    int n = step % NUMBERS;
+                    // In the order of SIGNS.
+                    int sign = fact < n ? 0 : fact == n ? 1 : 2;
+                    truths = truths << 1 | (sign == step / NUMBERS % SIGN_COUNT ? 1 : 0);
                 }
             }
             return (truths & 1) == 1;
-        }
-
-        private static boolean testHolds(int step, int[] facts) {
-            int letter = step / 100 / SIGNS.length();
-            if (letter < 0 || letter >= facts.length) {
-                return false;
-            }
-            int n = step % 100;
-            switch (step / 100 % SIGNS.length()) {
-                case 0: return facts[letter] < n;
-                case 1: return facts[letter] == n;
-                default: return facts[letter] > n;
-            }
         }
     }
 
@@ -959,14 +961,12 @@ public final class LaughingGate {
         final byte[] text = new byte[MOST_BYTES];
         int length;
         int at;
-        private City city;
 
-        boolean fills(City blank) {
-            city = blank;
+        boolean fills(City city) {
             city.clear();
             at = 0;
             for (int clause = 1; clause <= MOST_CLAUSES; clause++) {
-                if (!readClause()) {
+                if (!readClause(city)) {
                     return false;
                 }
                 if (at == length) {
@@ -979,7 +979,7 @@ public final class LaughingGate {
             return false;
         }
 
-        private boolean readClause() {
+        private boolean readClause(City city) {
             int first = at < length ? text[at] : -1;
             if (!takesWord(wordFrom(first))) {
                 return false;
@@ -996,7 +996,7 @@ public final class LaughingGate {
                 city.wind = n;
                 return true;
             }
-            if (!takes(' ') || !readEither(0)) {
+            if (!takes(' ') || !readEither(city, 0)) {
                 return false;
             }
             city.endClause(first == 't' ? n : -n);
@@ -1043,12 +1043,12 @@ public final class LaughingGate {
             return n;
         }
 
-        private boolean readEither(int depth) {
-            if (!readBoth(depth)) {
+        private boolean readEither(City city, int depth) {
+            if (!readBoth(city, depth)) {
                 return false;
             }
             for (int more = 0; more < MOST_BYTES && takes('|'); more++) {
-                if (!readBoth(depth)) {
+                if (!readBoth(city, depth)) {
                     return false;
                 }
                 city.addStep(City.OR);
@@ -1056,12 +1056,12 @@ public final class LaughingGate {
             return true;
         }
 
-        private boolean readBoth(int depth) {
-            if (!readPart(depth)) {
+        private boolean readBoth(City city, int depth) {
+            if (!readPart(city, depth)) {
                 return false;
             }
             for (int more = 0; more < MOST_BYTES && takes('&'); more++) {
-                if (!readPart(depth)) {
+                if (!readPart(city, depth)) {
                     return false;
                 }
                 city.addStep(City.AND);
@@ -1069,20 +1069,16 @@ public final class LaughingGate {
             return true;
         }
 
-        private boolean readPart(int depth) {
+        private boolean readPart(City city, int depth) {
             boolean mayNest = depth < MOST_NESTED;
             if (mayNest && takes('(')) {
-                return readEither(depth + 1) && takes(')');
+                return readEither(city, depth + 1) && takes(')');
             }
             if (mayNest && takes('!')) {
-                boolean isPart = readPart(depth + 1);
+                boolean isPart = readPart(city, depth + 1);
                 city.addStep(City.NOT);
                 return isPart;
             }
-            return readTest();
-        }
-
-        private boolean readTest() {
             int letter = readOneOf(City.LETTERS);
             int sign = letter < 0 ? -1 : readOneOf(City.SIGNS);
             int n = sign < 0 ? -1 : readNumber();
@@ -1105,6 +1101,9 @@ public final class LaughingGate {
 
     /** The bodies of all KINDS: each is sought from a KIND upward, so that a KIND without one takes that above. */
     private static final class Acts {
+        /** No body's calls stand open as deep as this: the kinds lie three deep, and tells, winks and coughs are three. */
+        private static final int DEEPEST = 20;
+
         final int[] trace = new int[MOST_TRACED];
         /** How many bodies ran, those that the trace has no room for, too. */
         int ran;
@@ -1139,7 +1138,7 @@ public final class LaughingGate {
         }
 
         private int coughs(int from, int x, int depth) {
-            if (depth > MOST_TRACED || from < ONE || from > TOLD) {
+            if (depth > DEEPEST || from < ONE || from > TOLD) {
                 return 0;
             }
             switch (from) {
@@ -1161,7 +1160,7 @@ public final class LaughingGate {
         }
 
         private int winks(int from, int x, int depth) {
-            if (depth > MOST_TRACED || from < ONE || from > TOLD) {
+            if (depth > DEEPEST || from < ONE || from > TOLD) {
                 return 0;
             }
             switch (from) {
@@ -1183,7 +1182,7 @@ public final class LaughingGate {
         }
 
         private int tells(int from, int x, int depth) {
-            if (depth > MOST_TRACED || from < ONE || from > TOLD) {
+            if (depth > DEEPEST || from < ONE || from > TOLD) {
                 return 0;
             }
             switch (from) {
