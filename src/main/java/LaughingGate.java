@@ -730,7 +730,7 @@ public final class LaughingGate {
             kinds[person] = kind;
             vs[person] = v;
             mirths[person] = mirth;
-            // Another one may have been here before an undo.
+            // So that nothing rests on who had the number before an undo.
             for (int part = 0; part < ROW_PARTS; part++) {
                 rows[person * ROW_PARTS + part] = 0;
             }

@@ -323,6 +323,14 @@ public final class Promises {
         due("count", x.count(6), 6);
         due("count", x.count(2), 6);
         due("near", x.told(1), 2);
+        // Texts that come to nothing leave no room less for those behind them.
+        x = begin(10);
+        x.one(0, 0, 0);
+        for (int i = 0; i < 9; i++) {
+            fault(x, "sober 9 p=0|p=1|p=2|p=3|p=4|p=0|p=1|p=2|p=3|p=4|p=0|p=1|p=2|p=3|p=4|p=0|p=1|p=2|p=3;near", 88);
+        }
+        due("city", city(x, "tickle 8 p=0&!p=1&p<3;tickle 30 p>0"), 0);
+        urges(x, 0, 8);
     }
 
     private static void sums(String clauses, int... sums) {
@@ -410,11 +418,28 @@ public final class Promises {
         due("hush", x.told(8), 2);
         city(x, "tickle 5 p=1|p=3;near 0");
         due("hush", x.told(8), 0);
+        due("spark", x.told(6), 0);
+        due("by it", x.told(7), 3);
         x.pass(5);
         due("in", x.told(9), 4);
         due("spark: nobody", x.told(6), -5);
         due("by it: nobody", x.told(7), 0);
         due("told", x.told(10), -1);
+        x = begin(11);
+        x.one(0, 0, 0);
+        x.one(0, 0, 0);
+        due("spark, though nobody laughs", x.told(6), 0);
+        due("by it", x.told(7), 0);
+        x.pass(1);
+        due("spark", x.told(6), 1);
+        x = begin(11);
+        for (int person = 0; person < 6; person++) {
+            x.one(0, 0, 5);
+        }
+        city(x, "tickle 5 p<9;near 9");
+        due("hush without the first, who is in by then", x.told(8), 62);
+        x.down(5);
+        due("hush", x.told(8), 63);
     }
 
     private static void pass() {
@@ -554,6 +579,9 @@ public final class Promises {
         due("can", x.can(1, 0), 5);
         due("can", x.can(1, 1), 5);
         due("v", x.of(1, 1), 9);
+        x.cheer(1, 0);
+        due("can", x.can(1, 0), 1);
+        due("can", x.can(1, 1), 9);
         x.see(0, 0, true);
         due("can", x.can(1, 0), 0);
         due("can", x.can(1, 1), -5);
@@ -973,11 +1001,15 @@ public final class Promises {
         row(x, 0, 1, 1, 2, 3, 4);
         due("shift", x.shift(0, 2, 0, 0, 3), 3);
         row(x, 0, 2, 3, 4, 3, 4);
-        x.tape(3, 4, 2);
         x.tape(4, 4, 2);
-        x.item(3, 0, 1);
-        due("shift", x.shift(3, 0, 4, 1, 1), 1);
+        x.tape(5, 4, 2);
+        x.item(4, 0, 1);
+        due("shift", x.shift(4, 0, 5, 1, 1), 1);
+        row(x, 5, 0, 1);
+        due("shift", x.shift(5, 0, 4, 0, 2), 2);
         row(x, 4, 0, 1);
+        due("shift", x.shift(5, 0, 6, 0, 2), -1);
+        due("shift", x.shift(5, 0, 7, 0, 2), -1);
     }
 
     public static void main(String[] args) {
