@@ -23,6 +23,8 @@ public final class FaceAndLanguage {
     private static final String[] BANNED = {"\\b(throw|throws|try|catch|synchronized|assert|import|package|double|float)\\b",
         "->", "::", "Exact\\b", "\\b(equals|hashCode|toString)\\s*\\(\\s*\\w* ?\\w*\\)\\s*\\{", "\\bwhile\\s*\\(true\\)",
         "for\\s*\\(\\s*;", "\\bstatic\\s*\\{", "\\b(Thread|System\\.(?!arraycopy)|Random|Object)\\b"};
+    /** What the class takes from the library; LANGUAGE.md lists more. */
+    private static final Set<String> LIBRARY = Set.of("Math.min", "Math.max", "Integer.bitCount", "System.arraycopy", "Long.MIN_VALUE");
     private static int wrong = 0;
 
     private static void want(boolean holds, String rule) {
@@ -100,6 +102,10 @@ public final class FaceAndLanguage {
             Matcher matcher = Pattern.compile(banned).matcher(code);
             want(!matcher.find(), "no " + banned);
         }
+        Matcher taken = Pattern.compile("\\b(?:Math|Integer|Long|String|Character|Byte|Short|Boolean|Arrays|List|System)\\.\\w+").matcher(code);
+        while (taken.find()) {
+            want(LIBRARY.contains(taken.group()), taken.group() + " is not of the library that is used");
+        }
         want(!code.contains("\"\" +") && !code.contains("+ \"\""), "texts are not joined by +");
         int start = 0;
         int line = 0;
@@ -121,12 +127,39 @@ public final class FaceAndLanguage {
         }
     }
 
+    /** The calls stand in the document's order, with the words that the interface says ahead of some. */
+    private static void order() throws IOException {
+        Path document = Path.of("../shared/DOC.md");
+        if (!Files.exists(document)) {
+            return;
+        }
+        List<String> due = new ArrayList<>();
+        Matcher groups = Pattern.compile("Ahead of the calls (.*) the interface says: (---- .*)\\.").matcher(Files.readString(document));
+        while (groups.find()) {
+            due.add(groups.group(2));
+            Matcher names = Pattern.compile("`(\\w+)`").matcher(groups.group(1));
+            while (names.find()) {
+                due.add(names.group(1));
+            }
+        }
+        List<String> found = new ArrayList<>();
+        Matcher lines = Pattern.compile("(?m)^    (?:// (---- .*)|public (?:int|long) (\\w+)\\(.*)$")
+            .matcher(Files.readString(Path.of("src/main/java/LaughingGate.java")));
+        while (lines.find()) {
+            found.add(lines.group(1) == null ? lines.group(2) : lines.group(1));
+        }
+        // Behind the last call there may be words of the class's own.
+        want(due.size() > 32 && found.size() >= due.size() && found.subList(0, due.size()).equals(due),
+            "the calls stand as the document says: " + due + ", not " + found);
+    }
+
     public static void main(String[] args) throws IOException {
         face();
         List<Class<?>> classes = new ArrayList<>(List.of(LaughingGate.class.getDeclaredClasses()));
         classes.add(LaughingGate.class);
         members(classes);
         text();
+        order();
         System.out.println(wrong == 0 ? "the face and the language are kept" : wrong + " rules are broken");
         if (wrong != 0) {
             System.exit(1);
